@@ -969,8 +969,6 @@ public final class ShadeCards {
 
         boolean takePart() {
             kind = sign();
-            first = NONE;
-            second = NONE;
             switch (kind) {
                 case 'o': return takeSign(kind) && takeFirst(OBSERVERS - 1) && takeSecond(CHIMNEYS - 1);
                 case 'r': return takeSign(kind) && takeFirst(OBSERVERS - 1);
@@ -1017,21 +1015,16 @@ public final class ShadeCards {
             return true;
         }
 
-        /** No number has more than two digits: a third one is met where the sign behind the number is due. */
+        /** A digit that the number cannot take is left: no digit can stand behind a number, so it becomes the fault. */
         private boolean takeNumber(int most) {
             if (!takeFirst(9)) {
                 return false;
             }
             int next = digit();
-            if (next == NONE) {
-                return true;
+            if (first > 0 && next != NONE && 10 * first + next <= most) {
+                first = 10 * first + next;
+                place++;
             }
-            int number = 10 * first + next;
-            if (first == 0 || number > most) {
-                return false;
-            }
-            first = number;
-            place++;
             return true;
         }
 

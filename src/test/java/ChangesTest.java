@@ -535,6 +535,8 @@ public final class ChangesTest {
         ShadeCards alone = Check.write(new ShadeCards(), "d72");
         alone.read();
         CHECK.same("damp alone", 4, alone.shadeOf(7, 3));
+        ShadeCards more = Check.write(Scenes.noticed(), "r0;.;o00;.1");
+        CHECK.same("notices that come, besides the one that was there", 1, more.read());
         ShadeCards full = Check.write(Scenes.watched(), ".;".repeat(29) + ".9");
         CHECK.same("a full pad", 60, full.padLength());
         full.read();
@@ -550,6 +552,14 @@ public final class ChangesTest {
         CHECK.same("two notices come", 2, grey.read());
         CHECK.same("the first was upheld", false, grey.stands(0));
         CHECK.same("the fine of the second", 10, grey.fineOf(1));
+        ShadeCards twice = Check.write(Scenes.watched(), "g0=4;.1;a0;a0;a1;a0");
+        CHECK.same("one notice", 1, twice.read());
+        CHECK.same("given back once", 0, twice.finesOf(0, true));
+        ShadeCards none = Check.write(Scenes.watched(), "a0;a1;g0=3");
+        CHECK.same("no notice to appeal against", 0, none.read());
+        none.pass(3);
+        CHECK.same("the one that comes then has its appeal", 0, none.wouldAppeal(0));
+        CHECK.same("and its fine", 10, none.finesOf(0, true));
     }
 
     private static void readRefused() {

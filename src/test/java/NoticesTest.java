@@ -147,6 +147,8 @@ public final class NoticesTest {
         CHECK.same("one that stands", 7, even.worstChimney());
         even.appeal(0);
         CHECK.same("none that stands", -1, even.worstChimney());
+        CHECK.same("given back to 7", 0, even.finesOf(7, true));
+        CHECK.same("chimney 0", 0, Scenes.noticed().worstChimney());
     }
 
     private static void refused() {

@@ -12,6 +12,8 @@ public final class UndoTest {
     public static void main(String[] args) {
         undoEachChange();
         undoHistory();
+        undoShadesOfThen();
+        undoSkyOfThen();
         undoLeavesPadAndSlots();
         undoable();
         save();
@@ -94,6 +96,47 @@ public final class UndoTest {
         CHECK.same("behind the first", 1, mixed.time());
         mixed.undo();
         CHECK.same("ahead of the first", 0, mixed.time());
+    }
+
+    /** The day behind writes over the ticks of the day before: an appeal must find those of its own day. */
+    private static void undoShadesOfThen() {
+        for (boolean bySlot : new boolean[] {false, true}) {
+            ShadeCards cards = new ShadeCards();
+            cards.setBias(0, 1);
+            cards.setChimney(0, 5, 0, 2, 0);
+            cards.watch(0, 0);
+            cards.pass(2);
+            cards.save(0);
+            cards.setChimney(0, 9, 2, 2, 0);
+            cards.pass(96);
+            goBack(cards, bySlot);
+            CHECK.same("4, 3, 4 read of 3, 2, 3", 1, cards.pass(1));
+            CHECK.same("less, in the tick 1 alone", 1, cards.wouldAppeal(0));
+        }
+    }
+
+    private static void undoSkyOfThen() {
+        for (boolean bySlot : new boolean[] {false, true}) {
+            ShadeCards cards = Scenes.watched();
+            cards.setGrey(0, 3);
+            cards.pass(2);
+            cards.setGrey(0, 0);
+            cards.save(0);
+            cards.setBias(1, 1);
+            cards.pass(96);
+            goBack(cards, bySlot);
+            CHECK.same("a row of three", 1, cards.pass(1));
+            CHECK.same("grey, in the ticks 0 and 1 alone", 0, cards.wouldAppeal(0));
+        }
+    }
+
+    private static void goBack(ShadeCards cards, boolean bySlot) {
+        if (bySlot) {
+            cards.restore(0);
+        } else {
+            cards.undo();
+            cards.undo();
+        }
     }
 
     private static void undoLeavesPadAndSlots() {
@@ -181,6 +224,8 @@ public final class UndoTest {
             CHECK.same("changes", 6, cards.undoable());
             CHECK.same("what stands behind restore", due, state(cards));
         }
+        restoreNotices();
+        restoreOutcomes();
         ShadeCards again = new ShadeCards();
         again.pass(4);
         again.save(0);
@@ -192,6 +237,63 @@ public final class UndoTest {
         Check.write(again, "o0");
         again.restore(0);
         CHECK.same("the pad is not saved", 2, again.padLength());
+    }
+
+    /** Two states with two notices each, which differ in all that a notice has. */
+    private static void restoreNotices() {
+        ShadeCards cards = new ShadeCards();
+        cards.setChimney(3, 9, 2, 2, 0);
+        cards.setChimney(5, 3, 0, 2, 0);
+        cards.setBias(1, 1);
+        cards.save(0);
+        cards.setGrey(0, 3);
+        cards.watch(0, 3);
+        cards.setLimit(3, 1);
+        cards.pass(1);
+        cards.setLimit(3, 2);
+        cards.pass(1);
+        cards.appeal(1);
+        cards.save(1);
+        cards.restore(0);
+        cards.watch(1, 5);
+        cards.setLimit(2, 2);
+        cards.pass(2);
+        cards.watch(1, -1);
+        cards.watch(0, 3);
+        cards.setLimit(3, 1);
+        cards.pass(1);
+        cards.appeal(1);
+        cards.save(0);
+        String[] due = {"5/10/true/1 3/10/true/3", "3/10/true/0 3/20/false/3"};
+        for (int slot : new int[] {0, 1, 0, 1}) {
+            CHECK.same("notices that stand", slot == 0 ? 2 : 1, cards.restore(slot));
+            CHECK.same("the notices", due[slot], notice(cards, 0) + " " + notice(cards, 1));
+        }
+        CHECK.same("fines of 3", 10, cards.finesOf(3, true));
+        CHECK.same("fines of 5", 0, cards.finesOf(5, true));
+        cards.undo();
+        CHECK.same("undone, the notices", due[0], notice(cards, 0) + " " + notice(cards, 1));
+        CHECK.same("undone, fines of 3", 10, cards.finesOf(3, true));
+        CHECK.same("undone, fines of 5", 10, cards.finesOf(5, true));
+    }
+
+    private static void restoreOutcomes() {
+        ShadeCards cards = Scenes.noticed();
+        cards.save(0);
+        cards.undo();
+        cards.setChimney(0, 5, 0, 2, 0);
+        cards.setBias(0, 1);
+        cards.pass(3);
+        cards.save(1);
+        for (int slot : new int[] {0, 1, 0, 1}) {
+            cards.restore(slot);
+            CHECK.same("outcome in slot " + slot, slot == 0 ? 2 : 1, cards.wouldAppeal(0));
+        }
+    }
+
+    private static String notice(ShadeCards cards, int notice) {
+        return cards.chimneyOf(notice) + "/" + cards.fineOf(notice) + "/" + cards.stands(notice) + "/"
+                + cards.wouldAppeal(notice);
     }
 
     private static ShadeCards withSlot(Supplier<ShadeCards> scene) {
