@@ -6,9 +6,19 @@ final class Check {
     private final String name;
     private int right = 0;
     private int wrong = 0;
+    private String subject = "";
 
     Check(String name) {
         this.name = name;
+    }
+
+    /** What the checks from now on are for; it is told with each that is not as due. */
+    void about(String words) {
+        subject = words.isEmpty() ? "" : "[" + words + "] ";
+    }
+
+    int count() {
+        return right + wrong;
     }
 
     void same(String what, Object due, Object got) {
@@ -16,7 +26,7 @@ final class Check {
             right++;
         } else {
             wrong++;
-            System.out.println(name + ": " + what + " answered " + got + ", due is " + due);
+            System.out.println(name + ": " + subject + what + " answered " + got + ", due is " + due);
         }
     }
 

@@ -41,4 +41,59 @@ final class Scenes {
         cards.pass(6);
         return Check.write(cards, "o00;.2;q");
     }
+
+    /** No notice, but the one that was there has been undone. */
+    static ShadeCards noticeUndone() {
+        ShadeCards cards = noticed();
+        cards.undo();
+        return cards;
+    }
+
+    /** Tick 49 of day 1: chimney 2 had a notice in each eighth tick, the next one would come with the tick 56. */
+    static ShadeCards nineteen() {
+        ShadeCards cards = new ShadeCards();
+        cards.setChimney(2, 9, 0, 8, 0);
+        cards.watch(1, 2);
+        cards.setLimit(4, 1);
+        cards.pass(145);
+        return cards;
+    }
+
+    /** Tick 57 of day 1: all twenty notices, of chimney 2, none of them with reason for an appeal. */
+    static ShadeCards twenty() {
+        ShadeCards cards = nineteen();
+        cards.pass(8);
+        return cards;
+    }
+
+    /** The last tick of a day, twenty notices, a full history, both slots saved, a full pad without a fault. */
+    static ShadeCards full() {
+        ShadeCards cards = nineteen();
+        cards.setGrey(14, 3);
+        cards.save(0);
+        cards.pass(40);
+        cards.save(1);
+        cards.appeal(0);
+        cards.appeal(19);
+        cards.pass(6);
+        return Check.write(cards, ".;".repeat(28) + "r0;.");
+    }
+
+    /** Chimney 0 smokes just so much, one tick after the other; returns how many notices come. */
+    static int smoke(ShadeCards cards, int... shades) {
+        int come = 0;
+        for (int shade : shades) {
+            cards.setChimney(0, shade == 0 ? 0 : 2 * shade - 1, 0, 2, cards.time() % 2);
+            come += cards.pass(1);
+        }
+        return come;
+    }
+
+    /** Observer 0 watches chimney 0, with this limit and this patience. */
+    static ShadeCards watching(int limit, int patience) {
+        ShadeCards cards = new ShadeCards();
+        cards.watch(0, 0);
+        cards.setLimit(limit, patience);
+        return cards;
+    }
 }

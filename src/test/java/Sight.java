@@ -37,6 +37,14 @@ final class Sight {
         return seen.toString();
     }
 
+    /** All but the history and the slots; the object is used up by it, too. */
+    static String stateOf(ShadeCards cards) {
+        String seen = of(cards);
+        int history = seen.indexOf(" undoable ");
+        int slots = seen.indexOf(" slot ");
+        return seen.substring(0, history) + seen.substring(seen.indexOf(" worst "), slots);
+    }
+
     private static void appendChimney(StringBuilder seen, ShadeCards cards, int chimney) {
         seen.append("\n chimney ").append(cards.shadeOf(chimney, 0)).append('/').append(cards.shadeOf(chimney, 11))
                 .append('/').append(cards.shadeOf(chimney, 50)).append('/').append(cards.smoke(chimney, 0, 95, false))

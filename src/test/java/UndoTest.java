@@ -12,8 +12,6 @@ public final class UndoTest {
     public static void main(String[] args) {
         undoEachChange();
         undoHistory();
-        undoShadesOfThen();
-        undoSkyOfThen();
         undoLeavesPadAndSlots();
         undoable();
         save();
@@ -37,17 +35,9 @@ public final class UndoTest {
             if (!wasFull) {
                 CHECK.same("what stands behind undo of " + what, Sight.of(twin), Sight.of(cards));
             } else {
-                CHECK.same("the state behind undo of " + what, state(twin), state(cards));
+                CHECK.same("the state behind undo of " + what, Sight.stateOf(twin), Sight.stateOf(cards));
             }
         }
-    }
-
-    /** All but the history and the slots. */
-    private static String state(ShadeCards cards) {
-        String seen = Sight.of(cards);
-        int history = seen.indexOf(" undoable ");
-        int slots = seen.indexOf(" slot ");
-        return seen.substring(0, history) + seen.substring(seen.indexOf(" worst "), slots);
     }
 
     /** Promise 38. */
@@ -96,47 +86,6 @@ public final class UndoTest {
         CHECK.same("behind the first", 1, mixed.time());
         mixed.undo();
         CHECK.same("ahead of the first", 0, mixed.time());
-    }
-
-    /** The day behind writes over the ticks of the day before: an appeal must find those of its own day. */
-    private static void undoShadesOfThen() {
-        for (boolean bySlot : new boolean[] {false, true}) {
-            ShadeCards cards = new ShadeCards();
-            cards.setBias(0, 1);
-            cards.setChimney(0, 5, 0, 2, 0);
-            cards.watch(0, 0);
-            cards.pass(2);
-            cards.save(0);
-            cards.setChimney(0, 9, 2, 2, 0);
-            cards.pass(96);
-            goBack(cards, bySlot);
-            CHECK.same("4, 3, 4 read of 3, 2, 3", 1, cards.pass(1));
-            CHECK.same("less, in the tick 1 alone", 1, cards.wouldAppeal(0));
-        }
-    }
-
-    private static void undoSkyOfThen() {
-        for (boolean bySlot : new boolean[] {false, true}) {
-            ShadeCards cards = Scenes.watched();
-            cards.setGrey(0, 3);
-            cards.pass(2);
-            cards.setGrey(0, 0);
-            cards.save(0);
-            cards.setBias(1, 1);
-            cards.pass(96);
-            goBack(cards, bySlot);
-            CHECK.same("a row of three", 1, cards.pass(1));
-            CHECK.same("grey, in the ticks 0 and 1 alone", 0, cards.wouldAppeal(0));
-        }
-    }
-
-    private static void goBack(ShadeCards cards, boolean bySlot) {
-        if (bySlot) {
-            cards.restore(0);
-        } else {
-            cards.undo();
-            cards.undo();
-        }
     }
 
     private static void undoLeavesPadAndSlots() {
@@ -208,7 +157,7 @@ public final class UndoTest {
         for (Supplier<ShadeCards> scene : SCENES) {
             ShadeCards cards = scene.get();
             cards.save(1);
-            String due = state(withSlot(scene));
+            String due = Sight.stateOf(withSlot(scene));
             cards.setChimney(2, 9, 1, 5, 7);
             cards.setGrey(0, 4);
             cards.watch(1, 2);
@@ -222,7 +171,7 @@ public final class UndoTest {
             }
             CHECK.same("notices that stand", due2, stand);
             CHECK.same("changes", 6, cards.undoable());
-            CHECK.same("what stands behind restore", due, state(cards));
+            CHECK.same("what stands behind restore", due, Sight.stateOf(cards));
         }
         restoreNotices();
         restoreOutcomes();
