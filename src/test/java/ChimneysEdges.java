@@ -322,6 +322,10 @@ final class ChimneysEdges {
             ShadeCards edge = new ShadeCards();
             edge.setChimney(0, 9, 2, 2, 0);
             e.same("the shortest turn, a whole day", 480, edge.smoke(0, 0, 95, way));
+            edge.setChimney(0, 9, 2, 2, 11);
+            e.same("several turns ahead of the first stoking", 0, edge.smoke(0, 0, 0, way));
+            e.same("just ahead of it", 0, edge.smoke(0, 0, 10, way));
+            e.same("with it", 5, edge.smoke(0, 0, 11, way));
             edge.setChimney(0, 9, 2, 12, 11);
             e.same("the longest one from the last beginning, a whole day: seven turns of 25, and 5", 180,
                     edge.smoke(0, 0, 95, way));

@@ -273,6 +273,11 @@ final class TextsEdges {
         e.same("the second part", 1, cards.time());
         e.same("behind an emptied pad", 1, cards.put('.'));
         e.same("nothing of what was there", -1, cards.fault());
+        cards.read();
+        e.same("nothing of what was there is done", 2, cards.time());
+        Check.write(cards, ".9").read();
+        Check.write(cards, ".").read();
+        e.same("a longer text was read ahead of it", 93, cards.time());
     }
 
     private static void orderOfCharacters(Edges e) {
@@ -373,7 +378,26 @@ final class TextsEdges {
             e.same("its fault", 0, cards.fault());
             e.same("what is put then stands alone", -1, Check.write(cards, "r0").fault());
             e.same("no changes", 0, cards.undoable());
+            nothingOfALongerText(e);
         });
+    }
+
+    private static void nothingOfALongerText(Edges e) {
+        String[][] tooEarly = {{"o", "o0"}, {"o0", "o07"}, {"r", "r0"}, {"f7", "f79"}, {"d7", "d72"}, {"g", "g0=0"},
+            {"g2", "g2=0"}, {"g23=", "g23=4"}, {"a", "a1"}, {"r0;", "r0;."}};
+        for (String[] texts : tooEarly) {
+            e.same("fault of " + texts[0] + " behind " + texts[1], texts[0].length(), faultBehind(texts[0], texts[1]));
+        }
+        String[][] whole = {{"a1", "a10"}, {".", ".9"}, {"r0", "r0;x"}, {"g1=0", "g1=00"}};
+        for (String[] texts : whole) {
+            e.same("fault of " + texts[0] + " behind " + texts[1], -1, faultBehind(texts[0], texts[1]));
+        }
+    }
+
+    private static int faultBehind(String text, String longer) {
+        ShadeCards cards = Check.write(new ShadeCards(), longer);
+        cards.wipe();
+        return Check.write(cards, text).fault();
     }
 
     private static void padLength(Edges e) {
