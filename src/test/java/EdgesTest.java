@@ -2,11 +2,12 @@ import java.io.IOException;
 import java.nio.file.Files;
 import java.nio.file.Path;
 
-/** For each sentence of the terms and of promises 1 to 41 a test of its own, at the edges that it names. */
+/** For each sentence of the document up to promise 41 a test of its own, at the edges that it names. */
 public final class EdgesTest {
     public static void main(String[] args) throws IOException {
         Check check = new Check("EdgesTest");
         Edges edges = new Edges(check, Files.readString(Path.of(args[1])));
+        FirstWordsEdges.all(edges);
         TermsEdges.all(edges);
         ChimneysEdges.all(edges);
         ObserversEdges.all(edges);
@@ -16,7 +17,7 @@ public final class EdgesTest {
         ToComeEdges.all(edges);
         TextsEdges.all(edges);
         UndoEdges.all(edges);
-        for (String start : new String[] {"Terms", "Chimneys", "Ticks", "Texts", "Promise "}) {
+        for (String start : new String[] {"What it is", "Terms", "Chimneys", "Ticks", "Texts", "Promise "}) {
             edges.allTold(start);
         }
         check.end();

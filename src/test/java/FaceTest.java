@@ -1,11 +1,16 @@
+import java.io.IOException;
 import java.lang.reflect.Constructor;
 import java.lang.reflect.Field;
 import java.lang.reflect.Method;
 import java.lang.reflect.Modifier;
+import java.nio.file.Files;
+import java.nio.file.Path;
 import java.util.ArrayList;
 import java.util.List;
 import java.util.Set;
 import java.util.TreeSet;
+import java.util.regex.Matcher;
+import java.util.regex.Pattern;
 
 /** The face has what the document lists, with the throws clauses, and nothing else. */
 public final class FaceTest {
@@ -52,14 +57,42 @@ public final class FaceTest {
         "int restore(int) throws IndexOutOfBoundsException,IllegalStateException",
     };
 
-    public static void main(String[] args) {
+    private static final Pattern SIGNATURE = Pattern.compile("(\\w+) (\\w+)\\(([^)]*)\\)( throws ([\\w, ]+))?");
+
+    public static void main(String[] args) throws IOException {
         Check check = new Check("FaceTest");
+        checkDocument(check, Files.readString(Path.of(args[1])));
         Class<?> face = ShadeCards.class;
         check.same("modifiers", "public final", Modifier.toString(face.getModifiers()));
         check.same("NONE", -1, ShadeCards.NONE);
         checkMethods(check, face);
         checkOthers(check, face);
         check.end();
+    }
+
+    /** The document lists the face at its start, and tells each method again in its promise. */
+    private static void checkDocument(Check check, String document) {
+        Set<String> listed = new TreeSet<>();
+        document.lines().filter(line -> line.matches(" {4}public .*\\(.*;")).filter(line -> !line.contains(" ShadeCards()"))
+                .forEach(line -> listed.add(plain(line)));
+        check.same("methods that the document lists", new TreeSet<>(List.of(DUE)), listed);
+        Set<String> promised = new TreeSet<>();
+        document.lines().filter(line -> line.matches("`\\w+ \\w+\\(.*`: .*"))
+                .forEach(line -> promised.add(plain(line.substring(0, line.indexOf("`: ")))));
+        check.same("methods that the promises tell", new TreeSet<>(List.of(DUE)), promised);
+        check.same("the constant", true, document.contains("    public static final int NONE = -1;\n"));
+        check.same("the constructor", true, document.contains("    public ShadeCards();\n"));
+    }
+
+    /** Without the names of the parameters. */
+    private static String plain(String line) {
+        Matcher parts = SIGNATURE.matcher(line);
+        if (!parts.find()) {
+            return line;
+        }
+        String parameters = parts.group(3).replaceAll("(\\w+) \\w+", "$1").replace(" ", "");
+        String thrown = parts.group(5) == null ? "" : " throws " + parts.group(5).replace(" ", "");
+        return parts.group(1) + " " + parts.group(2) + "(" + parameters + ")" + thrown;
     }
 
     private static void checkMethods(Check check, Class<?> face) {

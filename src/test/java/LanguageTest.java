@@ -6,6 +6,7 @@ import java.lang.reflect.Modifier;
 import java.nio.file.Files;
 import java.nio.file.Path;
 import java.util.ArrayList;
+import java.util.HashSet;
 import java.util.List;
 import java.util.Set;
 import java.util.regex.Matcher;
@@ -18,6 +19,11 @@ public final class LanguageTest {
         "\\bassert\\b", "\\bsynchronized\\b", "\\bvar\\b", "\\bstatic \\{", "Exact\\b", "System\\.(?!arraycopy)",
         "\\bObject\\b", "\\bMath\\.(random|sqrt|pow)", "\\b(equals|hashCode|toString)\\(", "\\bThread\\b",
         "\\bThrowable\\b", "\\bRandom\\b", "\" \\+|\\+ \"", "\\binstanceof\\b", "while \\(true\\)", "for \\(;;\\)"};
+    /** What of the library stands in the program; the classes inside it come on top. */
+    private static final Set<String> LIBRARY = Set.of("ShadeCards", "Arrays", "Integer", "Math", "System",
+            "IllegalStateException", "IllegalArgumentException", "IndexOutOfBoundsException");
+    private static final Set<String> FUNCTIONS = Set.of("Arrays.fill", "Integer.bitCount", "Math.abs", "Math.max",
+            "Math.min", "System.arraycopy");
     private static final Set<String> THROWN = Set.of("IllegalStateException", "IllegalArgumentException",
             "IndexOutOfBoundsException");
 
@@ -32,13 +38,46 @@ public final class LanguageTest {
         while (imports.find()) {
             CHECK.same("import", "java.util.Arrays", imports.group(1));
         }
+        library(text);
         Matcher thrown = Pattern.compile("throw (new )?(\\w+)").matcher(text);
         while (thrown.find()) {
             CHECK.same("thrown: " + thrown.group(2), true, THROWN.contains(thrown.group(2)));
         }
         classes();
         longMethods(text);
+        newObjects(text);
         CHECK.end();
+    }
+
+    private static void library(String text) {
+        Set<String> known = new HashSet<>(LIBRARY);
+        for (Class<?> inside : ShadeCards.class.getDeclaredClasses()) {
+            known.add(inside.getSimpleName());
+        }
+        String code = text.replaceAll("\"[^\"]*\"", "\"\"").replaceAll("(?m)^import .*$", "");
+        Matcher names = Pattern.compile("\\b[A-Z]\\w*[a-z]\\w*").matcher(code);
+        while (names.find()) {
+            CHECK.same("known: " + names.group(), true, known.contains(names.group()));
+        }
+        Matcher functions = Pattern.compile("\\b(Arrays|Integer|Math|System)\\.\\w+").matcher(code);
+        while (functions.find()) {
+            CHECK.same("of rule 4: " + functions.group(), true, FUNCTIONS.contains(functions.group()));
+        }
+    }
+
+    /** All calls of a run live in one room: objects are made with the object alone, and an exception where it is thrown. */
+    private static void newObjects(String text) {
+        boolean inConstructor = false;
+        for (String line : text.split("\n")) {
+            if (line.matches(" {4}( {4})?(?!for |if |while |switch )[^ }].*\\{")) {
+                inConstructor = line.matches(" *(public )?[A-Z]\\w*\\(.*\\{");
+            }
+            boolean field = line.matches(" {4}( {4})?(private )?final .* = new .*;");
+            boolean thrown = line.matches(" *throw new \\w+\\(\".*\"\\);");
+            if (line.contains("new ")) {
+                CHECK.same("made in no call: " + line, true, inConstructor || field || thrown);
+            }
+        }
     }
 
     private static void classes() {

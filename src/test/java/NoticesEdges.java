@@ -181,6 +181,21 @@ final class NoticesEdges {
         }
     }
 
+    /** Chimney 1 has the notices 0, 1, 3 (all grey) and 5, of 10 to 40; chimney 0 has 2 and 4, of 10 and 20. */
+    private static ShadeCards twoAndFour() {
+        ShadeCards cards = new ShadeCards();
+        cards.setLimit(4, 1);
+        cards.setChimney(0, 9, 0, 12, 11);
+        cards.setChimney(1, 9, 0, 8, 0);
+        cards.watch(0, 0);
+        cards.watch(1, 1);
+        for (int hour : new int[] {0, 2, 4}) {
+            cards.setGrey(hour, 3);
+        }
+        cards.pass(25);
+        return cards;
+    }
+
     private static void worstChimney(Edges e) {
         e.in("Promise 29: worstChimney");
         e.holds("Returns the chimney with the most fines;", () -> {
@@ -192,6 +207,12 @@ final class NoticesEdges {
             e.same("the only one, the last", 7, last.worstChimney());
             ShadeCards fines = twoAndThree();
             e.same("10 and 20 of the lower one, 10, 20 and 30 of the higher one", 7, fines.worstChimney());
+            ShadeCards few = twoAndFour();
+            e.same("10 and 20 of the lower one, 10 to 40 of the higher one", 1, few.worstChimney());
+            for (int upheld : new int[] {0, 1, 3}) {
+                few.appeal(upheld);
+            }
+            e.same("10 and 20 of the lower one, 40 alone of the higher one", 1, few.worstChimney());
         });
         e.holds("of several the lowest;", () -> {
             for (int lower : new int[] {0, 6}) {

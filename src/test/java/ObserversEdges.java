@@ -464,6 +464,50 @@ final class ObserversEdges {
         e.same("fewer errors, but of fewer readings", 2, best(new int[] {2, 1}, none, new int[] {9, 4}));
         e.same("none of 1", 2, best(new int[] {12, 1}, new int[] {9, 1}, new int[] {1, 0}));
         e.same("the one of the middle", 1, best(new int[] {4, 2}, new int[] {4, 1}, new int[] {4, 2}));
+        e.same("20,000 of 40,001 and 20,001 of 40,003", 0, alike(0).bestObserver());
+        e.same("20,001 of 40,003 and 20,000 of 40,001", 1, alike(1).bestObserver());
+        e.same("the errors of the better", 20000, alike(1).errorsOf(1));
+        e.same("the errors of the other", 20001, alike(1).errorsOf(0));
+        e.same("80,000 of 40,000 and 40,000 of them", 1, readLong(0).bestObserver());
+        e.same("40,000 of 40,000 and 80,000 of them", 0, readLong(1).bestObserver());
+        e.same("the errors of the one", 2 * 40000 - 12, readLong(1).errorsOf(1));
+        e.same("the errors of the other", 40000 - 12, readLong(1).errorsOf(0));
+    }
+
+    /** Two observers whose errors for each reading are not told apart by a float, the better and the other. */
+    private static ShadeCards alike(int better) {
+        ShadeCards cards = Scenes.hot();
+        letReadLong(cards, better, 40001, 20000);
+        letReadLong(cards, 1 - better, 40003, 20001);
+        return cards;
+    }
+
+    /** With the bias 1 no reading of the shade 5 is wrong; with none, each one is, once the observer is tired. */
+    private static void letReadLong(ShadeCards cards, int observer, int readings, int errors) {
+        cards.watch(observer, 0);
+        cards.setBias(observer, 1);
+        passLong(cards, readings - errors);
+        cards.setBias(observer, 0);
+        passLong(cards, errors);
+        cards.watch(observer, -1);
+    }
+
+    private static void passLong(ShadeCards cards, int ticks) {
+        for (int rest = ticks; rest > 0; rest -= 200) {
+            cards.pass(Math.min(200, rest));
+        }
+    }
+
+    /** So long that errors times readings are more than an int holds; one of the two errs twice as much, when tired. */
+    private static ShadeCards readLong(int worse) {
+        ShadeCards cards = Scenes.hot();
+        cards.setBias(worse, -1);
+        cards.watch(0, 0);
+        cards.watch(1, 0);
+        for (int call = 0; call < 200; call++) {
+            cards.pass(200);
+        }
+        return cards;
     }
 
     private static void withoutReadings(Edges e) {

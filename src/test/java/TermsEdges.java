@@ -67,7 +67,8 @@ final class TermsEdges {
 
     static void all(Edges e) {
         e.in("What it is");
-        e.holds("An object is used for at most 512 calls after it has been made;", () -> theMostCalls(e));
+        e.holds("An object is used for at most 512 calls after it has been made; what later calls answer is free.",
+                () -> theMostCalls(e));
         e.in("Terms");
         e.holds("EXCEPTIONS. A method throws IndexOutOfBoundsException, if what it is asked about does not exist, "
                 + "IllegalArgumentException, if another argument is out of its range, and IllegalStateException as its "
