@@ -1,3 +1,4 @@
+import java.util.ArrayList;
 import java.util.List;
 import java.util.function.Supplier;
 
@@ -171,7 +172,9 @@ final class FirstWordsEdges {
     }
 
     private static void smokeBothWays(Edges e) {
-        for (Supplier<ShadeCards> scene : scenes()) {
+        List<Supplier<ShadeCards>> all = new ArrayList<>(scenes());
+        all.add(FirstWordsEdges::ofAllKinds);
+        for (Supplier<ShadeCards> scene : all) {
             for (int chimney = 0; chimney < 8; chimney++) {
                 int uneven = 0;
                 for (int from = 0; from <= 95; from++) {
@@ -180,6 +183,18 @@ final class FirstWordsEdges {
                 e.same("uneven smokes of " + chimney, 0, uneven);
             }
         }
+    }
+
+    /** The coldest and the hottest fires, dry and damp, the shortest and the longest turns, the first and the last begin. */
+    private static ShadeCards ofAllKinds() {
+        ShadeCards cards = new ShadeCards();
+        int[][] kinds = {{0, 2, 2, 0}, {0, 1, 12, 11}, {0, 0, 2, 11}, {9, 2, 12, 0}, {9, 0, 11, 11}, {1, 0, 3, 1},
+            {2, 2, 7, 5}, {8, 1, 5, 10}};
+        for (int chimney = 0; chimney < 8; chimney++) {
+            int[] kind = kinds[chimney];
+            cards.setChimney(chimney, kind[0], kind[1], kind[2], kind[3]);
+        }
+        return cards;
     }
 
     private static int unevenSmokes(ShadeCards cards, int chimney, int from) {

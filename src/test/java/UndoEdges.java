@@ -64,6 +64,7 @@ final class UndoEdges {
         for (boolean bySlot : Edges.WAYS) {
             shadesOfThen(e, bySlot);
             skyOfThen(e, bySlot);
+            restAndReadings(e, bySlot);
         }
         padAndSlotsStay(e);
     }
@@ -92,6 +93,39 @@ final class UndoEdges {
         cards.setGrey(0, 0);
         e.same("the third of the row", 1, cards.pass(1));
         e.same("grey in the first two of the row", 0, cards.wouldAppeal(0));
+    }
+
+    /** Observer 0 has read well, and has rested since; observer 1 has read, rested, and reads again. */
+    private static void restAndReadings(Edges e, boolean bySlot) {
+        ShadeCards cards = Scenes.watched();
+        cards.setBias(1, -1);
+        cards.watch(1, 0);
+        cards.pass(9);
+        cards.watch(0, -1);
+        cards.watch(1, -1);
+        cards.pass(1);
+        cards.watch(1, 0);
+        cards.pass(2);
+        cards.save(0);
+        cards.watch(0, 0);
+        cards.pass(96);
+        goBack(cards, bySlot);
+        e.same("who rests is not tired", 0, cards.tirednessOf(0));
+        e.same("the tiredness since the rest", 2, cards.tirednessOf(1));
+        e.same("the readings ahead of the rest count", 0, cards.bestObserver());
+        e.same("the errors of the one", 0, cards.errorsOf(0));
+        e.same("the errors of the other", 11, cards.errorsOf(1));
+        cards.setBias(0, -1);
+        cards.watch(0, 0);
+        cards.watch(1, -1);
+        cards.pass(9);
+        e.same("9 of 18 and 11 of 11", 0, cards.bestObserver());
+        cards.setBias(1, 0);
+        cards.watch(1, 0);
+        cards.pass(1);
+        cards.watch(0, -1);
+        cards.pass(11);
+        e.same("10 of 19 and 11 of 23", 1, cards.bestObserver());
     }
 
     private static void goBack(ShadeCards cards, boolean bySlot) {
